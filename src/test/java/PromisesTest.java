@@ -227,6 +227,7 @@ public final class PromisesTest {
         x.set(2, n("32"), 0, 2);
         x.clear(2, n("32"), 0);
         x.clear(2, n("32"), 0);
+        Due.is("records of all zones", x.count(2), 3);
         x.removeZone(0);
         x.ask(0, n("1"), 0);
         x.ask(0, n("1"), 0);
@@ -275,6 +276,7 @@ public final class PromisesTest {
         Due.is("removed, wrong", x.set(0, n("1"), 0, 0), INVALID);
 
         ViewedNames y = fullOfChanges();
+        Due.is("no second label", y.set(0, 26, 0, 0), INVALID);
         Due.is("the 71st", y.set(0, n("1"), 0, 0), LIMIT);
         Due.is("nothing was set", y.record(0, n("1"), 0, 0), NOT_FOUND);
         Due.is("the 71st, wrong", y.set(0, n("2"), 0, 0), INVALID);
@@ -422,6 +424,8 @@ public final class PromisesTest {
         Due.is("changes", x.count(3), 10);
         write(x, "2:0=1;3:0=2;");
         Due.is("outside the apex", x.lay(0), NOT_POSSIBLE);
+        write(x, "3:0=1;2:0=2;");
+        Due.is("outside the apex at first", x.lay(0), NOT_POSSIBLE);
         write(x, "2:0=1;12:0-;");
         Due.is("removal outside the apex", x.lay(0), NOT_POSSIBLE);
         write(x, "2:0=1;2:0=2");
@@ -634,12 +638,35 @@ public final class PromisesTest {
         Due.is("the last one", x.difference(1, 2, 0, 1, 20), n("144"));
         Due.is("not nearly so many", x.difference(1, 2, 1, 2, Integer.MAX_VALUE), NOT_FOUND);
         Due.is("index -1", x.difference(1, 2, 1, 2, -1), INVALID);
+        x.pass(1);
+        x.addZone(1, n("443"));
+        x.addZone(1, n("441"));
+        x.pass(1);
+        x.addZone(0, n("442"));
+        Due.is("zones of three labels", x.differences(1, 0, 3, 5), 3);
+        Due.is("the first one", x.difference(1, 0, 3, 5, 0), n("441"));
+        Due.is("the last one", x.difference(1, 0, 3, 5, 2), n("443"));
         int[][] bad = {{-1, 0, 0, 0}, {4, 0, 0, 0}, {0, -1, 0, 0}, {0, 3, 0, 0}, {0, 0, -1, 0},
-            {0, 0, 4, 0}, {0, 0, 0, -1}, {0, 0, 0, 4}};
+            {0, 0, 6, 0}, {0, 0, 0, -1}, {0, 0, 0, 6}};
         for (int[] a : bad) {
             Due.is("differences", x.differences(a[0], a[1], a[2], a[3]), INVALID);
             Due.is("difference", x.difference(a[0], a[1], a[2], a[3], 0), INVALID);
         }
+    }
+
+    private static void promise21And22AllNames() {
+        ViewedNames x = new ViewedNames();
+        x.pass(1);
+        // No zone has the pattern 4 as its apex, so names at 4 need apexes of two labels.
+        String[] apexes = {"1", "2", "3", "41", "42", "43"};
+        for (String apex : apexes) {
+            x.addZone(2, n(apex));
+        }
+        Due.is("all but 4, 44 and those below 44", x.differences(2, 0, 0, 1), 84 - 6);
+        Due.is("the first one", x.difference(2, 0, 0, 1, 0), n("1"));
+        Due.is("the last one", x.difference(2, 0, 0, 1, 77), n("344"));
+        Due.is("no more", x.difference(2, 0, 0, 1, 78), NOT_FOUND);
+        Due.is("split", x.split(2, 0, 0, 1), 84 - 6);
     }
 
     private static void promise23Split() {
@@ -695,6 +722,11 @@ public final class PromisesTest {
         Due.is("events elsewhere", x.since(0, n("1"), 0), 61);
         Due.is("another view", x.since(3, n("1"), 0), 61);
         Due.is("view -1", x.since(-1, n("1"), 0), INVALID);
+        ViewedNames y = new ViewedNames();
+        y.pass(1);
+        y.addZone(0, n("1"));
+        y.pass(1);
+        Due.is("from tick 1", y.since(0, n("1"), 0), 1);
         Due.is("view 4", x.since(4, n("1"), 0), INVALID);
         Due.is("type -1", x.since(0, n("1"), -1), INVALID);
         Due.is("type 3", x.since(0, n("1"), 3), INVALID);
@@ -705,6 +737,9 @@ public final class PromisesTest {
 
     private static void promise25SeenBy() {
         ViewedNames x = views();
+        x.addNet(3, 240, 4);
+        x.addZone(3, n("2"));
+        Due.is("view 3", x.seenBy(n("2"), 0, NO_NAME, 2), 16);
         Due.is("view 1", x.seenBy(n("1"), 0, 20, 0), 64);
         Due.is("views 0 and 2", x.seenBy(n("1"), 0, 10, 0), 192);
         Due.is("no data for view 2", x.seenBy(n("12"), 0, NO_DATA, 1), 64);
@@ -891,6 +926,7 @@ public final class PromisesTest {
         promise19ZoneFor();
         promise20Source();
         promise21And22Differences();
+        promise21And22AllNames();
         promise23Split();
         promise24Since();
         promise25SeenBy();
