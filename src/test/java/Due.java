@@ -2,8 +2,14 @@
 final class Due {
     private static int checked = 0;
     private static int wrong = 0;
+    private static String about = "";
 
     private Due() {
+    }
+
+    /** The sentence of the document that the checks from here on are about. */
+    static void about(String sentence) {
+        about = "[" + sentence + "] ";
     }
 
     static void is(String call, long got, long want) {
@@ -24,10 +30,14 @@ final class Due {
         return wrong;
     }
 
+    static int checked() {
+        return checked;
+    }
+
     private static void tell(String what) {
         wrong++;
         if (wrong <= 50) {
-            System.out.println(what);
+            System.out.println(about + what);
         }
     }
 

@@ -11,7 +11,7 @@ import java.util.regex.Pattern;
  */
 final class Model {
     private static final Pattern CHANGE = Pattern.compile(
-            "([1-4]{1,3}):(?:0=(0*[0-9]{1,2}|[01][0-9]{2}|2[0-4][0-9]|25[0-5])|1=([1-4]{1,3})"
+            "([1-4]{1,3}):(?:0=([01]?[0-9]{1,2}|2[0-4][0-9]|25[0-5])|1=([1-4]{1,3})"
             + "|2=([0-9]{1,3})|([012])-);");
 
     private record Net(int view, String bits) {

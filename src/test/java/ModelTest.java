@@ -7,7 +7,8 @@ import java.util.Random;
 
 /** Runs of random calls, each made on a ViewedNames and on a Model. */
 public final class ModelTest {
-    private static final int RUNS = 1500;
+    private static final int RUNS = 2000;
+    /** What an object answers after these is free. */
     private static final int CALLS = 512;
 
     /** A weight, the method and the kinds of its arguments. */
@@ -103,6 +104,7 @@ public final class ModelTest {
         if (characters.isEmpty()) {
             int type = random.nextInt(3);
             String value = type == 1 ? labels() : "" + random.nextInt(type == 0 ? 270 : 1010);
+            value = random.nextInt(12) == 0 ? "0" + value : value;
             String change = labels() + ":" + type
                     + (random.nextInt(4) == 0 ? "-" : "=" + value) + ";";
             change.chars().forEach(characters::add);
@@ -144,13 +146,13 @@ public final class ModelTest {
 
     private boolean run(List<String[]> lots) throws ReflectiveOperationException {
         boolean right = true;
-        for (int i = 0; right && i < CALLS; i++) {
+        while (right && done.size() < CALLS) {
             String[] kinds = lots.get(random.nextInt(lots.size()));
             if (isSteady && kinds[1].startsWith("remove") && random.nextInt(8) != 0) {
                 continue;
             }
             int times = kinds[1].equals("type") ? 1 + random.nextInt(40) : 1;
-            for (int k = 0; right && k < times; k++) {
+            for (int k = 0; right && k < times && done.size() < CALLS; k++) {
                 right = call(kinds);
             }
         }

@@ -1,47 +1,13 @@
 /** Each promise of the document with ordinary inputs, edges and wrong inputs. */
-public final class PromisesTest {
-    private static final int INVALID = -1;
-    private static final int NOT_POSSIBLE = -2;
-    private static final int LIMIT = -3;
-    private static final int NOT_FOUND = -4;
-    private static final int NO_ZONE = -11;
-    private static final int NO_NAME = -12;
-    private static final int NO_DATA = -13;
-    private static final int TOO_LONG = -14;
+public final class PromisesTest extends Setting {
     private static final int[] NO_NAMES = {Integer.MIN_VALUE, -1, 0, 5, 10, 20, 25, 26, 29, 30, 50,
         51, 75, 100, 104, 105, 120, 125, 126, Integer.MAX_VALUE};
-
-    /** The number of a name that is written with its labels. */
-    private static int n(String labels) {
-        int number = 0;
-        for (int i = labels.length() - 1; i >= 0; i--) {
-            number = number * 5 + labels.charAt(i) - '0';
-        }
-        return number;
-    }
-
-    private static void write(ViewedNames x, String text) {
-        x.clearText();
-        for (int i = 0; i < text.length(); i++) {
-            Due.is("type in " + text, x.type(text.charAt(i)), i + 1);
-        }
-    }
 
     private static void faultIs(String text, int want) {
         ViewedNames x = new ViewedNames();
         write(x, text);
         Due.is("fault of " + text, x.fault(), want);
         Due.is("fault again of " + text, x.fault(), want);
-    }
-
-    /** A service whose only zone, 1 in view 0, has had all 70 changes. */
-    private static ViewedNames fullOfChanges() {
-        ViewedNames x = new ViewedNames();
-        x.addZone(0, n("1"));
-        for (int i = 0; i < 70; i++) {
-            Due.is("set " + i, x.set(0, n("1"), 2, i), 1);
-        }
-        return x;
     }
 
     private static void promise01NewObject() {
