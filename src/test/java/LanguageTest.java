@@ -5,7 +5,9 @@ import java.lang.reflect.Modifier;
 import java.nio.file.Files;
 import java.nio.file.Path;
 import java.util.Arrays;
+import java.util.Map;
 import java.util.Set;
+import java.util.TreeMap;
 import java.util.TreeSet;
 import java.util.regex.Matcher;
 import java.util.regex.Pattern;
@@ -120,11 +122,50 @@ public final class LanguageTest {
         }
     }
 
+    /** Rule 8 and rule 11: no recursion, and calls go at most eight deep. */
+    private static void callsAreNotDeep() throws IOException {
+        Map<String, Set<String>> calls = new TreeMap<>();
+        String heading = " {4,8}(?!return|else)[\\w\\[\\] ]*\\b(\\w+)\\(.*\\{";
+        Pattern call = Pattern.compile("\\b(\\w+)\\(");
+        String method = "";
+        for (String line : Files.readAllLines(SOURCE)) {
+            if (line.matches(heading)) {
+                method = line.replaceAll(heading, "$1");
+                calls.putIfAbsent(method, new TreeSet<>());
+                continue;
+            }
+            Matcher called = call.matcher(line.replaceAll("^ *(/?\\*|//).*", ""));
+            while (!method.isEmpty() && called.find()) {
+                calls.get(method).add(called.group(1));
+            }
+        }
+        for (String face : FACE) {
+            String name = face.substring(0, face.indexOf(' '));
+            Due.holds(name + " is found in the source", calls.containsKey(name));
+            Due.holds(name + " goes too deep", depth(calls, name, 0) <= 8);
+        }
+        Due.holds("the deepest way is seen", depth(calls, "ask", 0) >= 7);
+    }
+
+    /** Methods of one name count as one, so this is rather too much than too little. */
+    private static int depth(Map<String, Set<String>> calls, String method, int above) {
+        int deepest = 0;
+        // Recursion would have no end here; far more than eight is told as too deep as well.
+        if (above > 20 || !calls.containsKey(method)) {
+            return 0;
+        }
+        for (String called : calls.get(method)) {
+            deepest = Math.max(deepest, depth(calls, called, above + 1));
+        }
+        return deepest + 1;
+    }
+
     public static void main(String[] args) throws IOException {
         face();
         classesInside();
         text();
         roomIsMadeOnce();
+        callsAreNotDeep();
         Due.end();
     }
 }
